@@ -140,6 +140,7 @@ public final class ChartTest {
             full.pass(1);
         }
         Check.due("home", full.count(4), 8);
+        Check.due("worth home", full.count(10), 72);
         Check.due("ninth", full.ship(9, 0, 1), BeamKeepers.FULL);
         Check.due("ninth, not possible", full.ship(9, 0, 0), BeamKeepers.NOT_POSSIBLE);
         full.undo();

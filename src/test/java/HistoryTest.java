@@ -5,6 +5,7 @@ public final class HistoryTest {
         acts();
         snapshots();
         wholeState();
+        whatWasSoFar();
         Check.end();
     }
 
@@ -142,6 +143,48 @@ public final class HistoryTest {
         game.restore();
         Check.due("history then", game.count(11), 3);
         Check.same("restore", game, before);
+    }
+
+    private static void whatWasSoFar() {
+        // Hours waited, wrecks owed and coins paid so far are of the state, too.
+        BeamKeepers game = new BeamKeepers();
+        game.light(1, 3, 255);
+        game.rock(24);
+        game.ship(30, 15, 33);
+        String atFirst = Check.told(game);
+        game.pass(1);
+        String waited = Check.told(game);
+        game.keep();
+        game.pass(1);
+        String wrecked = Check.told(game);
+        Check.due("waited", game.shipOf(0, 4), 1);
+        Check.due("owed", game.keeperOf(0, 3), 1);
+        Check.due("paid", game.keeperOf(0, 4), 4);
+        game.undo();
+        Check.same("undo of the wreck", game, waited);
+        game.undo();
+        Check.same("undo of the waiting", game, atFirst);
+        game.restore();
+        Check.same("restore of the waiting", game, waited);
+        game.pass(1);
+        Check.same("wrecked again", game, wrecked);
+        game.keep();
+        game.undo();
+        Check.same("undo", game, waited);
+        game.restore();
+        Check.same("restore of the wreck", game, wrecked);
+        // A ship that comes where one was taken back begins anew.
+        BeamKeepers other = new BeamKeepers();
+        other.rock(24);
+        other.ship(30, 15, 33);
+        other.pass(3);
+        other.undo();
+        other.undo();
+        Check.due("new ship", other.ship(5, 15, 33), 0);
+        int[] told = {5, 15, 33, 0, 0, 2, 0};
+        for (int what = 0; what < told.length; what++) {
+            Check.due("new ship " + what, other.shipOf(0, what), told[what]);
+        }
     }
 
     private static void change(BeamKeepers game) {

@@ -11,6 +11,9 @@ public final class TellTest {
         litTwoWays();
         whyDark();
         counts();
+        fogOfNow();
+        corners();
+        eightShips();
         shares();
         Check.end();
     }
@@ -272,6 +275,73 @@ public final class TellTest {
         Check.due("worth home", game.count(10), 29);
         Check.due("states", game.count(11), 4);
         Check.due("wage", game.count(13), 2);
+    }
+
+    private static void fogOfNow() {
+        // Fog of 1 hides the farthest cell of the range, and no other.
+        BeamKeepers game = alone();
+        game.card(1, 0);
+        game.pass(2);
+        game.light(0, 0, 6);
+        game.rock(26);
+        game.rock(24);
+        Check.due("fog", game.lightOf(0, 4), 1);
+        Check.due("in range less fog", game.cellOf(26, 2), 1);
+        Check.due("beyond it", game.cellOf(27, 2), 2);
+        game.rock(37);
+        Check.due("beyond it", game.cellOf(37, 2), 0);
+        Check.due("lit rocks", game.count(6), 2);
+        Check.due("lit cells", game.count(7), 13 + 3);
+        Check.due("lit by light 0", game.lightOf(0, 6), 13);
+        game.pass(1);
+        game.light(0, 0, 5);
+        Check.due("no fog", game.cellOf(37, 2), 1);
+        Check.due("lit rocks", game.count(6), 3);
+        Check.due("lit cells", game.count(7), 18 + 2);
+        Check.due("lit by light 0", game.lightOf(0, 6), 18);
+    }
+
+    private static void corners() {
+        // The first and the last cell of the chart count, too.
+        int[] corner = {0, 9, 90, 99};
+        int[] wind = {5, 7, 3, 1};
+        for (int i = 0; i < 4; i++) {
+            BeamKeepers game = new BeamKeepers();
+            for (int other = 0; other < 4; other++) {
+                if (other != i) {
+                    game.light(other, 3, 255);
+                }
+            }
+            game.light(i, 0, wind[i]);
+            game.rock(corner[i]);
+            Check.due("lit corner", game.cellOf(corner[i], 2), 1 << i);
+            Check.due("own cell and two", game.lightOf(i, 6), 3);
+            Check.due("with the other lights", game.count(7), 6);
+            Check.due("a lit rock", game.count(6), 1);
+            Check.due("seen by walking", game.isLit(i, corner[i], 0, 1), 1);
+        }
+    }
+
+    private static void eightShips() {
+        BeamKeepers game = alone();
+        game.light(0, 3, 255);
+        for (int i = 0; i < 8; i++) {
+            game.ship(10 + i, 90 + i, i);
+        }
+        for (int i = 0; i < 8; i++) {
+            game.rock(80 + i);
+        }
+        Check.due("at sea", game.count(3), 8);
+        Check.due("foreseen", game.ifPassed(1), 255);
+        Check.due("best card", game.bestCard(0), BeamKeepers.NONE);
+        Check.due("last place", game.shipOf(0, 6), 7);
+        Check.due("first place", game.shipOf(7, 6), 0);
+        Check.due("all wrecked", game.pass(1), 8);
+        Check.due("wrecks", game.count(5), 8);
+        Check.due("no ship in 0", game.cellOf(0, 1), BeamKeepers.NONE);
+        game.undo();
+        Check.due("at sea again", game.count(3), 8);
+        Check.due("last place again", game.shipOf(0, 6), 7);
     }
 
     private static void shares() {

@@ -24,9 +24,15 @@ public final class TextTest {
         Check.due("no act", game.count(11), 0);
         Check.due("fault of any character", game.fault(), 0);
         // What was cleared is not read any more.
-        Check.write(game, "r55");
-        Check.write(game, "r5");
-        Check.due("after a longer text", game.fault(), 2);
+        String whole = "s12:34>56;d12;h19;r55";
+        for (int length = 0; length < whole.length(); length++) {
+            BeamKeepers once = new BeamKeepers();
+            Check.write(once, whole.substring(0, length));
+            Check.write(game, whole);
+            Check.due("the whole text", game.fault(), BeamKeepers.NONE);
+            Check.write(game, whole.substring(0, length));
+            Check.due("after a longer text", game.fault(), once.fault());
+        }
     }
 
     private static void fault(String text, int due) {
@@ -116,6 +122,14 @@ public final class TextTest {
         fault(twenty, none);
         fault(twenty + ";", 60);
         fault(twenty + "1", none);
+        // Texts that are full, and end within each kind of part.
+        String most = "r55;r55;r55;r55;r55;r55;r55;r55;r55;r55;r55;r55;";
+        String[] ends = {"r55;r55;r55;", "s11:23>45;d1", "s1:23>45;d12", "d11;s99:12>3", "d12;d13;h20;",
+            "s99:12>34;h2", "d12;h1;s9:12", "r12;d12;s99:", "r12;d12;h2;s", "r12;h2;s1:2", "r12;r12;h1;r"};
+        int[] due = {60, 60, none, 60, 60, none, 60, 60, 60, 59, 60};
+        for (int i = 0; i < ends.length; i++) {
+            fault(most + ends[i], due[i]);
+        }
         BeamKeepers game = new BeamKeepers();
         Check.due("twenty parts", Check.does(game, twenty), 20);
         Check.due("twenty hours", game.count(0), 20);
