@@ -31,6 +31,7 @@ public final class BeamKeepers {
 
     private static final int MOST_SHIPS = 8;
     private static final int MOST_WORTH = 99;
+    private static final int NOT_COME = -1;
     private static final int AT_SEA = 0;
     private static final int HOME = 1;
     private static final int WRECKED = 2;
@@ -47,6 +48,8 @@ public final class BeamKeepers {
     // The shortest part and its ';' take three characters.
     private static final int MOST_PARTS = 20;
     private static final int FIRST_FAULT = -100;
+    // What stands behind the last character; no part allows it anywhere.
+    private static final char END = 0;
 
     private static final int MOST_STATES = 4;
 
@@ -104,7 +107,8 @@ public final class BeamKeepers {
             return FIRST_FAULT - fault;
         }
         trial.copyFrom(state);
-        for (int i = 0; i < text.partCount; i++) {
+        int parts = Math.min(text.partCount, MOST_PARTS);
+        for (int i = 0; i < parts; i++) {
             int error = trial.doPart(text.parts[i]);
             if (error != FINE) {
                 return error;
@@ -112,7 +116,7 @@ public final class BeamKeepers {
         }
         history.record(state);
         state.copyFrom(trial);
-        return text.partCount;
+        return parts;
     }
 
     // ---- keepers, hours
@@ -219,7 +223,7 @@ public final class BeamKeepers {
     }
 
     public int shipOf(int ship, int what) {
-        if (ship < 0 || ship >= state.shipCount) {
+        if (!isShip(ship) || ship >= state.shipCount) {
             return UNKNOWN;
         }
         if (what == 6) {
@@ -301,7 +305,7 @@ public final class BeamKeepers {
         trial.copyFrom(state);
         trial.passHours(hours);
         int set = 0;
-        for (int i = 0; i < state.shipCount; i++) {
+        for (int i = 0; i < MOST_SHIPS; i++) {
             if (isWreckedInTrial(i)) {
                 set |= 1 << i;
             }
@@ -334,7 +338,7 @@ public final class BeamKeepers {
     private int worthWreckedInTrial() {
         trial.passHours(HOURS_OF_BEST_CARD);
         int worth = 0;
-        for (int i = 0; i < state.shipCount; i++) {
+        for (int i = 0; i < MOST_SHIPS; i++) {
             if (isWreckedInTrial(i)) {
                 worth += state.ships[i].worth;
             }
@@ -352,6 +356,10 @@ public final class BeamKeepers {
 
     private static boolean isLight(int light) {
         return light >= 0 && light < LIGHTS;
+    }
+
+    private static boolean isShip(int ship) {
+        return ship >= 0 && ship < MOST_SHIPS;
     }
 
     private static boolean isSetting(int what, int value) {
@@ -373,11 +381,14 @@ public final class BeamKeepers {
 
         Bearings() {
             for (int cell = 0; cell < CELLS; cell++) {
+                int least = SIDE;
                 for (int light = 0; light < LIGHTS; light++) {
                     int from = LIGHT_CELLS[light];
+                    int distance = distanceBetween(from, cell);
                     winds[light][cell] = windOf(cell % SIDE - from % SIDE, cell / SIDE - from / SIDE);
-                    distances[light][cell] = distanceBetween(from, cell);
-                    if (distances[light][cell] < distances[nearest[cell]][cell]) {
+                    distances[light][cell] = distance;
+                    if (distance < least) {
+                        least = distance;
                         nearest[cell] = light;
                     }
                 }
@@ -480,6 +491,9 @@ public final class BeamKeepers {
             if (cell == ownCell) {
                 return true;
             }
+            if (!isCell(cell)) {
+                return false;
+            }
             int wind = winds[cell];
             return wind == beamWind(hour) && distances[cell] <= reach(thinned) && !isDark(wind);
         }
@@ -517,6 +531,9 @@ public final class BeamKeepers {
         }
 
         private static int eastOnRing(int ring, int step) {
+            if (ring < 1) {
+                return 0;
+            }
             int fromWest = Math.abs(Math.floorMod(step, 8 * ring) - 4 * ring);
             return Math.max(-ring, Math.min(ring, fromWest - 2 * ring));
         }
@@ -532,7 +549,7 @@ public final class BeamKeepers {
         }
 
         int whyDark(int cell, int hour) {
-            if (cell == ownCell) {
+            if (cell == ownCell || !isCell(cell)) {
                 return 0;
             }
             int wind = winds[cell];
@@ -594,8 +611,10 @@ public final class BeamKeepers {
         int worth = 0;
         int cell = 0;
         int harbour = 0;
-        int condition = AT_SEA;
+        int condition = NOT_COME;
         int waited = 0;
+        // Whether its turn in the hour that passes is over.
+        boolean hasGone = false;
 
         void copyFrom(Ship other) {
             worth = other.worth;
@@ -625,6 +644,10 @@ public final class BeamKeepers {
             }
         }
 
+        boolean isAtSeaIn(int place) {
+            return condition == AT_SEA && cell == place;
+        }
+
         int nextCell() {
             int east = Integer.compare(harbour % SIDE, cell % SIDE);
             int south = Integer.compare(harbour / SIDE, cell / SIDE);
@@ -652,8 +675,6 @@ public final class BeamKeepers {
         final Light[] lights = new Light[LIGHTS];
         final Keeper[] keepers = new Keeper[LIGHTS];
         final Ship[] ships = new Ship[MOST_SHIPS];
-        // The numbers of all ships, also of those no longer at sea: a worth never changes.
-        final int[] goingOrder = new int[MOST_SHIPS];
         int shipCount = 0;
         int wage = 2;
         int hour = 0;
@@ -671,7 +692,6 @@ public final class BeamKeepers {
 
         void copyFrom(State other) {
             System.arraycopy(other.rockRows, 0, rockRows, 0, SIDE);
-            System.arraycopy(other.goingOrder, 0, goingOrder, 0, MOST_SHIPS);
             for (int i = 0; i < LIGHTS; i++) {
                 lights[i].copyFrom(other.lights[i]);
                 keepers[i].copyFrom(other.keepers[i]);
@@ -685,7 +705,7 @@ public final class BeamKeepers {
         }
 
         boolean hasRock(int cell) {
-            return (rockRows[cell / SIDE] >> cell % SIDE & 1) != 0;
+            return isCell(cell) && (rockRows[cell / SIDE] >> cell % SIDE & 1) != 0;
         }
 
         int rocks() {
@@ -709,7 +729,9 @@ public final class BeamKeepers {
         }
 
         void turnRock(int cell) {
-            rockRows[cell / SIDE] ^= 1 << cell % SIDE;
+            if (isCell(cell)) {
+                rockRows[cell / SIDE] ^= 1 << cell % SIDE;
+            }
         }
 
         int shipError(int worth, int cell, int harbour) {
@@ -727,20 +749,17 @@ public final class BeamKeepers {
 
         int addShip(int worth, int cell, int harbour) {
             int number = shipCount;
-            ships[number].begin(worth, cell, harbour);
-            int place = number;
-            while (place > 0 && ships[goingOrder[place - 1]].worth < worth) {
-                goingOrder[place] = goingOrder[place - 1];
-                place--;
+            if (!isShip(number)) {
+                return FULL;
             }
-            goingOrder[place] = number;
+            ships[number].begin(worth, cell, harbour);
             shipCount++;
             return number;
         }
 
         int shipAtSeaIn(int cell) {
-            for (int i = 0; i < shipCount; i++) {
-                if (ships[i].condition == AT_SEA && ships[i].cell == cell) {
+            for (int i = 0; i < MOST_SHIPS; i++) {
+                if (ships[i].isAtSeaIn(cell)) {
                     return i;
                 }
             }
@@ -749,8 +768,8 @@ public final class BeamKeepers {
 
         int shipsThatAre(int condition) {
             int found = 0;
-            for (int i = 0; i < shipCount; i++) {
-                if (ships[i].condition == condition) {
+            for (Ship ship : ships) {
+                if (ship.condition == condition) {
                     found++;
                 }
             }
@@ -759,21 +778,23 @@ public final class BeamKeepers {
 
         int worthHome() {
             int worth = 0;
-            for (int i = 0; i < shipCount; i++) {
-                if (ships[i].condition == HOME) {
-                    worth += ships[i].worth;
+            for (Ship ship : ships) {
+                if (ship.condition == HOME) {
+                    worth += ship.worth;
                 }
             }
             return worth;
         }
 
         int placeOf(int ship) {
-            if (ships[ship].condition != AT_SEA) {
+            if (!isShip(ship) || ships[ship].condition != AT_SEA) {
                 return NONE;
             }
+            int worth = ships[ship].worth;
             int ahead = 0;
-            for (int i = 0; i < shipCount && goingOrder[i] != ship; i++) {
-                if (ships[goingOrder[i]].condition == AT_SEA) {
+            for (int i = 0; i < MOST_SHIPS; i++) {
+                boolean goesFirst = ships[i].worth > worth || ships[i].worth == worth && i < ship;
+                if (ships[i].condition == AT_SEA && goesFirst) {
                     ahead++;
                 }
             }
@@ -830,8 +851,11 @@ public final class BeamKeepers {
         int passHours(int hours) {
             int wrecks = 0;
             for (int passed = 0; passed < hours; passed++) {
-                for (int place = 0; place < shipCount; place++) {
-                    if (goesToWreck(ships[goingOrder[place]])) {
+                for (Ship ship : ships) {
+                    ship.hasGone = false;
+                }
+                for (int turn = 0; turn < MOST_SHIPS; turn++) {
+                    if (goesToWreck(nextToGo())) {
                         wrecks++;
                     }
                 }
@@ -846,10 +870,23 @@ public final class BeamKeepers {
             return wrecks;
         }
 
+        // Of the ships at sea that have not gone in this hour; null without one.
+        private Ship nextToGo() {
+            Ship first = null;
+            for (Ship ship : ships) {
+                boolean mayGo = ship.condition == AT_SEA && !ship.hasGone;
+                if (mayGo && (first == null || ship.worth > first.worth)) {
+                    first = ship;
+                }
+            }
+            return first;
+        }
+
         private boolean goesToWreck(Ship ship) {
-            if (ship.condition != AT_SEA) {
+            if (ship == null) {
                 return false;
             }
+            ship.hasGone = true;
             int next = ship.nextCell();
             boolean rockAhead = hasRock(next);
             if (shipAtSeaIn(next) != NONE || rockAhead && litBy(next, hour, 0) != 0) {
@@ -858,11 +895,18 @@ public final class BeamKeepers {
             }
             if (rockAhead) {
                 ship.breakIn(next);
-                keepers[bearings.nearest[next]].oweWreck(ship.worth);
+                oweWreck(next, ship.worth);
                 return true;
             }
             ship.comeTo(next);
             return false;
+        }
+
+        private void oweWreck(int cell, int worth) {
+            int keeper = isCell(cell) ? bearings.nearest[cell] : NONE;
+            if (isLight(keeper)) {
+                keepers[keeper].oweWreck(worth);
+            }
         }
 
         int doPart(Part part) {
@@ -877,7 +921,7 @@ public final class BeamKeepers {
                 if (error == FINE) {
                     addShip(part.number, part.cell, part.harbour);
                 }
-            } else if (part.kind == 'd') {
+            } else if (part.kind == 'd' && isLight(part.number)) {
                 lights[part.number].turnDark(part.wind);
             } else if (part.kind == 'h') {
                 error = passError(part.number);
@@ -900,7 +944,7 @@ public final class BeamKeepers {
         }
 
         void record(State state) {
-            if (size == MOST_STATES) {
+            if (size >= MOST_STATES) {
                 dropOldest();
             }
             states[size].copyFrom(state);
@@ -913,11 +957,11 @@ public final class BeamKeepers {
                 states[i - 1] = states[i];
             }
             states[MOST_STATES - 1] = oldest;
-            size--;
+            size = MOST_STATES - 1;
         }
 
         int takeBack(State state) {
-            if (size == 0) {
+            if (size < 1 || size > MOST_STATES) {
                 return NONE;
             }
             size--;
@@ -978,7 +1022,7 @@ public final class BeamKeepers {
         }
 
         private boolean readPart(Part part) {
-            part.kind = place < length ? characters[place] : ' ';
+            part.kind = signAhead();
             if (readSign('r')) {
                 part.cell = readCell();
                 return part.cell >= 0;
@@ -1011,8 +1055,12 @@ public final class BeamKeepers {
             return part.harbour >= 0;
         }
 
+        private char signAhead() {
+            return place < length && place < MOST_CHARACTERS ? characters[place] : END;
+        }
+
         private boolean readSign(char sign) {
-            if (place < length && characters[place] == sign) {
+            if (signAhead() == sign) {
                 place++;
                 return true;
             }
@@ -1036,10 +1084,7 @@ public final class BeamKeepers {
         }
 
         private int readDigit(int least, int most) {
-            if (place >= length) {
-                return NONE;
-            }
-            int digit = characters[place] - '0';
+            int digit = signAhead() - '0';
             if (digit < least || digit > most) {
                 return NONE;
             }

@@ -77,7 +77,8 @@ public final class ChartTest {
             BeamKeepers game = new BeamKeepers();
             int previous = first[what];
             int recorded = 0;
-            for (int value = least[what]; value <= most[what]; value++) {
+            int step = what == 3 ? 5 : 1;
+            for (int value = least[what]; value <= most[what]; value += step) {
                 int due = value == previous ? BeamKeepers.NONE : previous;
                 Check.due("light " + what + " " + value, game.light(2, what, value), due);
                 recorded += value == previous ? 0 : 1;
@@ -100,7 +101,7 @@ public final class ChartTest {
             Check.due("other light", game.lightOf(1, what), what == 0 ? 1 : first[what]);
             Check.due("not recorded", game.count(11), states);
             Check.due("undo", game.undo(), states - 1);
-            Check.due("value before", game.lightOf(2, what), most[what] - 1);
+            Check.due("value before", game.lightOf(2, what), most[what] - step);
         }
         BeamKeepers game = new BeamKeepers();
         Check.due("light -1", game.light(-1, 0, 1), BeamKeepers.UNKNOWN);

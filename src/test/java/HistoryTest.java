@@ -123,11 +123,13 @@ public final class HistoryTest {
     }
 
     private static void wholeState() {
+        String before = Check.told(rich());
+        BeamKeepers changed = rich();
+        change(changed);
+        Check.due("changed", Check.told(changed).equals(before) ? 1 : 0, 0);
         BeamKeepers game = rich();
-        String before = Check.told(game);
         game.keep();
         change(game);
-        Check.due("changed", Check.told(game).equals(before) ? 1 : 0, 0);
         game.restore();
         Check.same("restore", game, before);
         game = rich();
@@ -145,18 +147,24 @@ public final class HistoryTest {
         Check.same("restore", game, before);
     }
 
-    private static void whatWasSoFar() {
-        // Hours waited, wrecks owed and coins paid so far are of the state, too.
+    /** A ship that waits in the first hour and is wrecked in the second one. */
+    private static BeamKeepers waiting(int hours) {
         BeamKeepers game = new BeamKeepers();
         game.light(1, 3, 255);
         game.rock(24);
         game.ship(30, 15, 33);
-        String atFirst = Check.told(game);
-        game.pass(1);
-        String waited = Check.told(game);
-        game.keep();
-        game.pass(1);
-        String wrecked = Check.told(game);
+        for (int i = 0; i < hours; i++) {
+            game.pass(1);
+        }
+        return game;
+    }
+
+    private static void whatWasSoFar() {
+        // Hours waited, wrecks owed and coins paid so far are of the state, too.
+        String atFirst = Check.told(waiting(0));
+        String waited = Check.told(waiting(1));
+        String wrecked = Check.told(waiting(2));
+        BeamKeepers game = waiting(2);
         Check.due("waited", game.shipOf(0, 4), 1);
         Check.due("owed", game.keeperOf(0, 3), 1);
         Check.due("paid", game.keeperOf(0, 4), 4);
@@ -164,10 +172,16 @@ public final class HistoryTest {
         Check.same("undo of the wreck", game, waited);
         game.undo();
         Check.same("undo of the waiting", game, atFirst);
+        game = waiting(1);
+        game.keep();
+        game.pass(1);
+        game.undo();
+        game.undo();
         game.restore();
         Check.same("restore of the waiting", game, waited);
         game.pass(1);
         Check.same("wrecked again", game, wrecked);
+        game = waiting(2);
         game.keep();
         game.undo();
         Check.same("undo", game, waited);

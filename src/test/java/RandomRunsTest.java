@@ -2,14 +2,17 @@ import java.util.Random;
 
 /** All promises: runs of calls by fixed seeds, each answer held against the model's. */
 public final class RandomRunsTest {
-    private static final int RUNS = 1500;
+    private static final int RUNS = 5000;
     private static final int CALLS = 512;
+    // The most calls of the object that one step takes: typing a text, and its fault after each character.
+    private static final int CALLS_OF_A_STEP = 85;
     private static int bestCards = 0;
 
     private final Random random;
     private final BeamKeepers game = new BeamKeepers();
     private final Model model = new Model();
     private final int style;
+    private int calls = 0;
 
     private RandomRunsTest(int seed) {
         random = new Random(seed);
@@ -19,12 +22,14 @@ public final class RandomRunsTest {
     public static void main(String[] args) {
         for (int seed = 0; seed < RUNS; seed++) {
             RandomRunsTest run = new RandomRunsTest(seed);
-            int first = 0;
             if (seed % 2 == 0) {
-                first = run.shipsHeld("seed " + seed + ", held: ");
+                run.shipsHeld("seed " + seed + ", held: ");
             }
-            for (int call = first; call < CALLS; call++) {
-                run.call("seed " + seed + ", call " + call + ": ");
+            if (seed % 5 == 1) {
+                run.late("seed " + seed + ", late: ");
+            }
+            while (run.calls + CALLS_OF_A_STEP <= CALLS) {
+                run.step("seed " + seed + ", call " + run.calls + ": ");
             }
         }
         Check.due("some best cards are found", bestCards > 100 ? 1 : 0, 1);
@@ -33,9 +38,9 @@ public final class RandomRunsTest {
 
     /**
      * Lights of pace 2 that take turns on the rocks between them, so that ships are held for long
-     * and a card decides. Returns the calls that it took.
+     * and a card decides. It takes 100 calls at most.
      */
-    private int shipsHeld(String at) {
+    private void shipsHeld(String at) {
         int[] start = {1, 1, 3, 7};
         for (int i = 0; i < 4; i++) {
             set(at, i, 0, upTo(7) == 0 ? upTo(7) : start[i]);
@@ -68,7 +73,22 @@ public final class RandomRunsTest {
                 Check.due(at + "pass", game.pass(1), model.pass(1));
             }
         }
-        return 100;
+        calls += 100;
+    }
+
+    /** Hours up to the last one that pass() takes, or just ahead of it. It takes 104 calls at most. */
+    private void late(String at) {
+        for (char sign : "h20;h20;h20;h20;h20;h20;h20;h20;h20;h20;h20;h20;h20;h20;h20".toCharArray()) {
+            Check.due(at + "type", game.type(sign), model.type(sign));
+        }
+        for (int i = 0; i < 33; i++) {
+            Check.due(at + "doAll", game.doAll(), model.doAll());
+        }
+        Check.due(at + "clearText", game.clearText(), model.clearText());
+        for (int hours : new int[] {20, 20, 20, 20, 1 + upTo(18)}) {
+            Check.due(at + "pass", game.pass(hours), model.pass(hours));
+        }
+        calls += 104;
     }
 
     private void set(String at, int light, int what, int value) {
@@ -92,18 +112,22 @@ public final class RandomRunsTest {
         return chance == 2 ? random.nextInt() : least + upTo(most - least);
     }
 
-    private void call(String at) {
+    private void step(String at) {
         int chance = upTo(99);
         if (chance < 40) {
             act(at);
+            calls++;
         } else if (chance < 55) {
             text(at);
         } else if (chance < 62) {
             history(at);
+            calls++;
         } else if (chance < 85) {
             tell(at);
+            calls += 7;
         } else {
             foresee(at);
+            calls += 4;
         }
     }
 
@@ -169,6 +193,7 @@ public final class RandomRunsTest {
     private void text(String at) {
         if (upTo(3) == 0) {
             Check.due(at + "clearText", game.clearText(), model.clearText());
+            calls++;
             return;
         }
         String typed = part();
@@ -182,6 +207,7 @@ public final class RandomRunsTest {
             Check.due(at + "type", game.type(typed.charAt(i)), model.type(typed.charAt(i)));
             Check.due(at + "fault of " + model.text, game.fault(), model.fault());
         }
+        calls += 2 * typed.length() + 1;
         if (upTo(2) > 0) {
             Check.due(at + "doAll " + model.text, game.doAll(), model.doAll());
         }

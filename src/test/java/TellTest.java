@@ -193,14 +193,12 @@ public final class TellTest {
     }
 
     private static void twoWays(int range, int cards, int dark) {
-        BeamKeepers game = new BeamKeepers();
         for (int i = 0; i < 4; i++) {
-            game.light(i, 2, range);
-            game.light(i, 3, dark);
-            for (int card = 0; card < cards; card++) {
-                game.card((i + 1) % 4, i);
-            }
+            BeamKeepers game = null;
             for (int cell = 0; cell < 100; cell++) {
+                if (cell % 25 == 0) {
+                    game = setUp(i, range, cards, dark);
+                }
                 for (int hour = 0; hour < 8; hour++) {
                     int beam = (i + hour) % 8;
                     int dx = cell % 10 - LIGHT[i] % 10;
@@ -212,6 +210,16 @@ public final class TellTest {
                 }
             }
         }
+    }
+
+    private static BeamKeepers setUp(int light, int range, int cards, int dark) {
+        BeamKeepers game = new BeamKeepers();
+        game.light(light, 2, range);
+        game.light(light, 3, dark);
+        for (int card = 0; card < cards; card++) {
+            game.card((light + 1) % 4, light);
+        }
+        return game;
     }
 
     private static void whyDark() {

@@ -28,6 +28,7 @@ public final class TextTest {
         for (int length = 0; length < whole.length(); length++) {
             BeamKeepers once = new BeamKeepers();
             Check.write(once, whole.substring(0, length));
+            game = new BeamKeepers();
             Check.write(game, whole);
             Check.due("the whole text", game.fault(), BeamKeepers.NONE);
             Check.write(game, whole.substring(0, length));
@@ -176,26 +177,35 @@ public final class TextTest {
         Check.due("text stays", game.count(12), text.length());
     }
 
-    private static void allOrNothing() {
+    private static BeamKeepers withShips(int ships) {
         BeamKeepers game = new BeamKeepers();
-        nothing(game, "r00;h5;r22", BeamKeepers.NOT_POSSIBLE);
-        nothing(game, "r72", BeamKeepers.NOT_POSSIBLE);
-        nothing(game, "s5:11>11", BeamKeepers.NOT_POSSIBLE);
-        nothing(game, "r11;s5:11>12", BeamKeepers.NOT_POSSIBLE);
-        nothing(game, "r11;s5:12>11", BeamKeepers.NOT_POSSIBLE);
-        nothing(game, "d00;s5:12>11;s6:12>11", BeamKeepers.NOT_POSSIBLE);
-        for (int i = 0; i < 7; i++) {
+        for (int i = 0; i < ships; i++) {
             game.ship(1, 50 + i, 99);
         }
-        nothing(game, "s9:00>01;h1;s9:00>01", BeamKeepers.FULL);
-        nothing(game, "s9:00>01;h1;s9:00>00", BeamKeepers.NOT_POSSIBLE);
-        BeamKeepers late = new BeamKeepers();
-        lateHour(late, 9990);
-        nothing(late, "h9;h1", BeamKeepers.FULL);
-        nothing(late, "r22;h20", BeamKeepers.NOT_POSSIBLE);
-        nothing(late, "h20;r22", BeamKeepers.FULL);
-        Check.due("up to 9999", Check.does(late, "h5;h4"), 2);
-        Check.due("hour", late.count(0), 9999);
+        return game;
+    }
+
+    private static BeamKeepers late() {
+        BeamKeepers game = new BeamKeepers();
+        Look.toHour(game, 9990);
+        return game;
+    }
+
+    private static void allOrNothing() {
+        nothing(withShips(0), "r00;h5;r22", BeamKeepers.NOT_POSSIBLE);
+        nothing(withShips(0), "r72", BeamKeepers.NOT_POSSIBLE);
+        nothing(withShips(0), "s5:11>11", BeamKeepers.NOT_POSSIBLE);
+        nothing(withShips(0), "r11;s5:11>12", BeamKeepers.NOT_POSSIBLE);
+        nothing(withShips(0), "r11;s5:12>11", BeamKeepers.NOT_POSSIBLE);
+        nothing(withShips(0), "d00;s5:12>11;s6:12>11", BeamKeepers.NOT_POSSIBLE);
+        nothing(withShips(7), "s9:00>01;h1;s9:00>01", BeamKeepers.FULL);
+        nothing(withShips(7), "s9:00>01;h1;s9:00>00", BeamKeepers.NOT_POSSIBLE);
+        nothing(late(), "h9;h1", BeamKeepers.FULL);
+        nothing(late(), "r22;h20", BeamKeepers.NOT_POSSIBLE);
+        nothing(late(), "h20;r22", BeamKeepers.FULL);
+        BeamKeepers last = late();
+        Check.due("up to 9999", Check.does(last, "h5;h4"), 2);
+        Check.due("hour", last.count(0), 9999);
     }
 
     private static void order() {
@@ -203,15 +213,5 @@ public final class TextTest {
         Check.due("a rock comes and goes", Check.does(game, "r11;r11;s5:11>12"), 3);
         Check.due("a ship leaves its cell", Check.does(game, "h1;s6:11>00"), 2);
         Check.due("first is home", game.shipOf(0, 3), 1);
-    }
-
-    private static void lateHour(BeamKeepers game, int hour) {
-        Check.write(game, "h20;h20;h20;h20;h20;h20;h20;h20;h20;h20");
-        while (game.count(0) + 200 <= hour) {
-            game.doAll();
-        }
-        while (game.count(0) < hour) {
-            game.pass(Math.min(20, hour - game.count(0)));
-        }
     }
 }
