@@ -74,7 +74,7 @@ final class Look {
 
     /**
      * A game with something of everything: ships 0 to 4 of which 0 is wrecked, 3 is home and the
-     * others are at sea, debts, fog, four states, a snapshot of an earlier hour, a text. 38 calls.
+     * others are at sea, debts, fog, four states, a snapshot of an earlier hour, a text. 28 calls.
      */
     static void busy(BeamKeepers game) {
         game.wage(1);
@@ -126,7 +126,7 @@ final class Look {
         }
     }
 
-    /** Passes to an hour, 300 at a time as far as it goes, and empties the text: 104 calls at most. */
+    /** Passes to an hour, 300 at a time as far as it goes, and empties the text: 110 calls at most. */
     static void toHour(BeamKeepers game, int hour) {
         game.clearText();
         write(game, "h20;h20;h20;h20;h20;h20;h20;h20;h20;h20;h20;h20;h20;h20;h20");

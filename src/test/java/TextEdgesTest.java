@@ -221,6 +221,10 @@ public final class TextEdgesTest {
             Check.due("hours", game.count(0), parts);
             Check.due("one act", game.count(11), 1);
         }
+        text.append(';');
+        Check.due("a text of 60 with twenty parts", text.length(), 60);
+        Check.due("ends too early for one more", written(text.toString()).fault(), 60);
+        Look.refused("doAll of it", game -> Look.write(game, text.toString()), game -> game.doAll(), -160);
         Check.due("fifteen of four", written("r11;r12;r13;r14;r15;r16;r17;r18;r19;r10;r11;r12;r13;r14;r15").doAll(), 15);
         Check.due("six ships", written("s1:00>01;s1:01>02;s1:02>03;s1:03>04;s1:04>05;s1:05>06").doAll(), 6);
     }
