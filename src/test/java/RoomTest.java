@@ -2,28 +2,39 @@ import java.lang.management.ManagementFactory;
 
 /** The room that all calls of a run share: a call makes nothing that stays or goes. */
 public final class RoomTest {
+    private static final int GAMES = 20;
+    // Each round takes 91 calls, and an object is used for at most 512.
+    private static final int ROUNDS = 5;
+
     public static void main(String[] args) {
-        callAll();
-        BeamKeepers game = new BeamKeepers();
+        callAll(games());
+        BeamKeepers[] games = games();
+        allocated();
+        allocated();
         long before = allocated();
         long measured = allocated() - before;
         before = allocated();
-        for (int i = 0; i < 20; i++) {
-            calls(game, i);
-        }
+        callAll(games);
         long made = allocated() - before - measured;
         // Some bytes are the machine's own; a call that makes an object makes far more.
         Check.due("bytes made by calls: " + made, made < 1000 ? 1 : 0, 1);
         Check.end();
     }
 
-    private static void callAll() {
-        BeamKeepers game = new BeamKeepers();
-        for (int i = 0; i < 20; i++) {
-            calls(game, i);
+    private static BeamKeepers[] games() {
+        BeamKeepers[] games = new BeamKeepers[GAMES];
+        for (int i = 0; i < GAMES; i++) {
+            games[i] = new BeamKeepers();
         }
-        allocated();
-        allocated();
+        return games;
+    }
+
+    private static void callAll(BeamKeepers[] games) {
+        for (BeamKeepers game : games) {
+            for (int round = 0; round < ROUNDS; round++) {
+                calls(game, round);
+            }
+        }
     }
 
     private static long allocated() {
