@@ -3,6 +3,10 @@ import java.lang.reflect.Field;
 import java.lang.reflect.Member;
 import java.lang.reflect.Method;
 import java.lang.reflect.Modifier;
+import java.nio.file.Files;
+import java.nio.file.Path;
+import java.util.ArrayList;
+import java.util.List;
 import java.util.Set;
 import java.util.TreeSet;
 
@@ -16,7 +20,27 @@ public final class FaceTest {
         "float share(int)", "int litIn(int)", "int ifPassed(int)", "int bestCard(int)",
     };
 
+    /** The face as it stands in the document, with what the interface says ahead of the calls. */
+    private static final String[] FACE = {
+        "public static final int UNKNOWN = -1;", "public static final int BAD_VALUE = -2;",
+        "public static final int FULL = -3;", "public static final int NOT_POSSIBLE = -4;",
+        "public static final int NONE = -5;", "public BeamKeepers();",
+        "// ---- chart, lights", "public int rock(int cell);", "public int light(int light, int what, int value);",
+        "public int ship(int worth, int cell, int harbour);", "public int doAll();",
+        "// ---- keepers, hours", "public int card(int keeper, int light);", "public int pass(int hours);",
+        "public int wage(int wage);",
+        "// ---- texts", "public int type(char character);", "public int clearText();", "public int fault();",
+        "// ---- history", "public int undo();", "public int keep();", "public int restore();",
+        "// ---- what is told", "public int cellOf(int cell, int what);", "public int lightOf(int light, int what);",
+        "public int keeperOf(int keeper, int what);", "public int shipOf(int ship, int what);",
+        "public int isLit(int light, int cell, int hour, int way);", "public int why(int light, int cell);",
+        "public int count(int what);", "public float share(int cell);",
+        "// ---- what would be", "public int litIn(int cell);", "public int ifPassed(int hours);",
+        "public int bestCard(int keeper);",
+    };
+
     public static void main(String[] args) throws Exception {
+        asItStands();
         Class<?> face = BeamKeepers.class;
         Check.due("UNKNOWN", BeamKeepers.UNKNOWN, -1);
         Check.due("BAD_VALUE", BeamKeepers.BAD_VALUE, -2);
@@ -44,6 +68,7 @@ public final class FaceTest {
                 constants++;
                 Check.due("constant " + field, field.getModifiers(),
                     Modifier.PUBLIC | Modifier.STATIC | Modifier.FINAL);
+                Check.due("an int: " + field, field.getType() == int.class ? 1 : 0, 1);
             }
         }
         Check.due("constants", constants, 5);
@@ -53,6 +78,21 @@ public final class FaceTest {
         Check.due("without arguments", constructors[0].getParameterCount(), 0);
         classesInside(face);
         Check.end();
+    }
+
+    private static void asItStands() throws Exception {
+        List<String> lines = Files.readAllLines(Path.of("src/main/java/BeamKeepers.java"));
+        Check.due("the class", lines.contains("public final class BeamKeepers {") ? 1 : 0, 1);
+        List<String> told = new ArrayList<>();
+        for (String line : lines) {
+            if (line.startsWith("    public ") || line.startsWith("    // ----")) {
+                told.add(line.strip().replace(" {", ";"));
+            }
+        }
+        Check.due("lines of the face", told.size(), FACE.length);
+        for (int i = 0; i < FACE.length && i < told.size(); i++) {
+            Check.due("\"" + FACE[i] + "\" in its place", told.get(i).equals(FACE[i]) ? 1 : 0, 1);
+        }
     }
 
     private static boolean isOpen(Member member) {
